@@ -830,11 +830,11 @@ public final class TimeDesk {
                 }
             }
             int year = Calendar.yearOfDay(Math.floorDiv(local, SECONDS_PER_DAY));
-            // The years of the rules' moments that lie within the greatest offset of these seconds.
-            for (int y = Math.max(year - 2, FIRST_YEAR); y <= Math.min(year + 1, LAST_YEAR); y++) {
+            // No rule of another year has a moment within the greatest offset of these seconds.
+            for (int y = Math.max(year - 1, FIRST_YEAR); y <= Math.min(year + 1, LAST_YEAR); y++) {
                 for (int i = 0; i < ruleCount; i++) {
                     long start = rules[i].momentIn(y);
-                    if (start > lastChange() && start < end && start + offsetAt(start) > local) {
+                    if (start < end && start + offsetAt(start) > local) {
                         end = start;
                     }
                 }

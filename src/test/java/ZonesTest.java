@@ -20,6 +20,7 @@ public final class ZonesTest {
         rulesOverNewYear();
         settling();
         calendarEdges();
+        gapsOverNewYear();
         shows();
         wrongMoments();
         anyZones();
@@ -245,6 +246,34 @@ public final class ZonesTest {
         desk.rule(3, 12, 28, 6, 0, -64800);
         desk.rule(3, 12, 1, 6, 0, 0);
         settle(desk, 3, "9999-12-31T12:00", last + 1 - 43200, last + 1 + 64800 - 43200);
+        // The year 10000, whose first day is a Saturday, has no moment of a rule.
+        desk.zone(3, 0);
+        desk.rule(3, 2, 1, 1, 0, -64800);
+        desk.rule(3, 1, 1, 6, 0, 0);
+        settle(desk, 3, "9999-12-31T12:00", last + 1 + 64800 - 43200, last + 1 + 64800 - 43200);
+    }
+
+    /** The gap of a rule whose moment lies in another year than the date and time. */
+    private static void gapsOverNewYear() {
+        TimeDesk desk = new TimeDesk();
+        desk.rule(0, 1, 1, 1, 0, 0);
+        desk.rule(0, 6, 1, 1, 0, -64800);
+        long monday = utc("2024-01-01T00:00:00");
+        settle(desk, 0, "2023-12-31T05:59:59", monday - 1, monday - 1);
+        settle(desk, 0, "2023-12-31T06:00", monday, monday);
+        settle(desk, 0, "2023-12-31T12:00", monday + 21600, monday + 21600);
+        settle(desk, 0, "2024-01-01T00:00", monday, monday);
+        desk.rule(1, 12, -1, 7, 86399, 64800);
+        desk.rule(1, 6, 1, 1, 0, 0);
+        settle(desk, 1, "2023-12-31T23:59:58", monday - 2, monday - 2);
+        settle(desk, 1, "2024-01-01T00:00", monday, monday);
+        settle(desk, 1, "2024-01-01T17:59:58", monday + 64798, monday + 64798);
+        settle(desk, 1, "2024-01-01T17:59:59", monday - 1, monday - 1);
+        // A rule of December whose Wednesday is 2024-01-03.
+        desk.rule(2, 12, 28, 3, 0, 3600);
+        desk.rule(2, 6, 1, 1, 0, 0);
+        settle(desk, 2, "2024-01-03T00:30", monday + 174600, monday + 174600);
+        settle(desk, 2, "2024-01-03T01:00", monday + 172800, monday + 172800);
     }
 
     private static void shows() {
