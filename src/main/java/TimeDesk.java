@@ -772,10 +772,12 @@ public final class TimeDesk {
             int answer = offsetByChanges(moment);
             int year = Calendar.yearOfDay(Math.floorDiv(moment, SECONDS_PER_DAY));
             long latest = lastChange();
-            // A rule's day may run over into the next year, so the rule may have had its last
-            // moment two years ago, counted by the years it belongs to.
-            for (int y = Math.max(year - 2, FIRST_YEAR); y <= Math.min(year, LAST_YEAR); y++) {
-                for (int i = 0; i < ruleCount; i++) {
+            // Rule by rule, not year by year: one rule's moment of a year may be the other one's of
+            // the next year, and then too the rule that was added later has the last word.
+            for (int i = 0; i < ruleCount; i++) {
+                // A rule's day may run over into the next year, so the rule may have had its last
+                // moment two years ago, counted by the years it belongs to.
+                for (int y = Math.max(year - 2, FIRST_YEAR); y <= Math.min(year, LAST_YEAR); y++) {
                     long start = rules[i].momentIn(y);
                     if (start <= moment && start > lastChange() && start >= latest) {
                         latest = start;

@@ -18,12 +18,14 @@ public final class ZonesTest {
         rules();
         offsets();
         rulesOverNewYear();
+        rulesAtOneMoment();
         settling();
         calendarEdges();
         gapsOverNewYear();
         shows();
         wrongMoments();
         anyZones();
+        anyRulesAroundNewYear();
         Check.end();
     }
 
@@ -180,6 +182,47 @@ public final class ZonesTest {
         Check.due("not yet", desk.offset(2, utc("2024-01-02T23:59:59")), 30);
         desk.rule(3, 2, 28, 7, 0, 40);
         Check.due("in March", desk.offset(3, utc("2024-03-03T00:00:00")), 40);
+    }
+
+    /** A moment that one rule has for one year and the other rule for the next one. */
+    private static void rulesAtOneMoment() {
+        long monday = utc("2023-01-02T00:00:00");
+        TimeDesk desk = new TimeDesk();
+        desk.rule(0, 1, 1, 1, 0, 3600);
+        desk.rule(0, 12, 28, 1, 0, 7200);
+        desk.rule(1, 12, 28, 1, 0, 7200);
+        desk.rule(1, 1, 1, 1, 0, 3600);
+        for (long moment : new long[] {monday, monday + 1, utc("2023-12-31T23:59:59")}) {
+            Check.due("December's was added later", desk.offset(0, moment), 7200);
+            Check.due("January's was added later", desk.offset(1, moment), 3600);
+        }
+        // 2021-12-28 is a Tuesday, so that its Monday is the first one of 2022 too; 2023-12-28 is
+        // a Thursday, and 2024-01-01 a Monday; 2024-12-28 is a Saturday, its Monday in December.
+        Check.due("December's", desk.offset(0, monday - 1), 7200);
+        Check.due("January's", desk.offset(1, monday - 1), 3600);
+        Check.due("first December's", desk.offset(0, utc("2024-12-30T00:00:00")), 7200);
+        Check.due("then January's", desk.offset(0, utc("2025-01-06T00:00:00")), 3600);
+        desk.show(0, 0, utc("2023-06-01T00:00:00"));
+        Check.due("show", Desk.text(desk, 0), "2023-06-01T02:00");
+        settle(desk, 0, "2023-06-01T02:00", utc("2023-06-01T00:00:00"), utc("2023-06-01T00:00:00"));
+        settle(desk, 1, "2023-06-01T02:00", utc("2023-06-01T01:00:00"), utc("2023-06-01T01:00:00"));
+
+        // The second 86400 of December 31, a Sunday, is the second 0 of Monday, January 1.
+        desk.rule(2, 1, 1, 1, 0, 3600);
+        desk.rule(2, 12, -1, 7, 86400, 7200);
+        desk.rule(3, 12, -1, 7, 86400, 7200);
+        desk.rule(3, 1, 1, 1, 0, 3600);
+        Check.due("the end of December's day", desk.offset(2, utc("2024-01-01T00:00:00")), 7200);
+        Check.due("the beginning of January's day", desk.offset(3, utc("2024-01-01T00:00:00")), 3600);
+
+        // Behind a change both count, at the change neither does.
+        for (int behind = 0; behind <= 1; behind++) {
+            desk.zone(0, 0);
+            desk.change(0, monday - behind, 1);
+            desk.rule(0, 1, 1, 1, 0, 3600);
+            desk.rule(0, 12, 28, 1, 0, 7200);
+            Check.due("change " + behind + " before", desk.offset(0, monday), behind == 1 ? 7200 : 1);
+        }
     }
 
     private static void settle(TimeDesk desk, int zone, String when, long first, long last) {
@@ -364,6 +407,37 @@ public final class ZonesTest {
             }
         }
         return plain;
+    }
+
+    /** Rules of December and January that often have a moment in common, in all years. */
+    private static void anyRulesAroundNewYear() {
+        Random random = new Random(5);
+        for (int i = 0; i < 60; i++) {
+            TimeDesk desk = new TimeDesk();
+            int first = anyOffset(random);
+            PlainZone plain = new PlainZone(first);
+            desk.zone(0, first);
+            int week = 1 + random.nextInt(7);
+            boolean isAtMidnight = random.nextBoolean();
+            boolean isDecember = random.nextBoolean();
+            for (int rule = 0; rule < 2; rule++) {
+                int offset = anyOffset(random);
+                int month = isDecember ? 12 : 1;
+                int day = !isDecember ? 1 + random.nextInt(2) : isAtMidnight ? -1 : 27 + random.nextInt(2);
+                int weekday = isDecember && isAtMidnight ? (week + 5) % 7 + 1 : week;
+                int second = isDecember && isAtMidnight ? 86400 : 0;
+                Check.due("rule", desk.rule(0, month, day, weekday, second, offset), true);
+                plain.rule(month, day, weekday, second, offset);
+                isDecember = !isDecember;
+            }
+            for (int j = 0; j < 40; j++) {
+                long newYear = utc(String.format("%05d-01-01T00:00", random.nextInt(19999) - 9999)
+                        .replaceFirst("^0", ""));
+                compare(desk, plain, newYear + (random.nextInt(12) - 5) * 86400L + random.nextInt(3) - 1);
+                compare(desk, plain, newYear + random.nextInt(1000000) - 500000);
+                compare(desk, plain, newYear + random.nextInt(366) * 86400L);
+            }
+        }
     }
 
     private static int anyOffset(Random random) {
