@@ -18,8 +18,12 @@ final class Desk {
     }
 
     static LocalDateTime take(TimeDesk desk, int slot) {
-        return LocalDateTime.of((int) desk.get(slot, 0), (int) desk.get(slot, 1), (int) desk.get(slot, 2),
-                (int) desk.get(slot, 6), (int) desk.get(slot, 7), (int) desk.get(slot, 8), (int) desk.get(slot, 9));
+        LocalDateTime when = LocalDateTime.of((int) desk.get(slot, 0), (int) desk.get(slot, 1),
+                (int) desk.get(slot, 2), (int) desk.get(slot, 6), (int) desk.get(slot, 7), (int) desk.get(slot, 8),
+                (int) desk.get(slot, 9));
+        // The parts are rests of divisions: they alone would not show a time of a day or more.
+        Check.due("nanosecond of day at " + when, desk.get(slot, 11), when.toLocalTime().toNanoOfDay());
+        return when;
     }
 
     static String text(TimeDesk desk, int slot) {
