@@ -1,10 +1,6 @@
 import java.math.BigInteger;
-import java.time.DayOfWeek;
-import java.time.LocalDate;
 import java.time.LocalDateTime;
 import java.time.Period;
-import java.time.temporal.TemporalAdjuster;
-import java.time.temporal.TemporalAdjusters;
 import java.util.Random;
 
 /** Promises 6 (plus), 7 (until), 8 (span) and 9 (adjust). */
@@ -12,10 +8,6 @@ public final class AmountsTest {
     private static final Class<?> SUPPORT = UnsupportedOperationException.class;
     private static final Class<?> ARGUMENT = IllegalArgumentException.class;
     private static final Class<?> ARITHMETIC = ArithmeticException.class;
-    private static final BigInteger DAY = BigInteger.valueOf(86400000000000L);
-    private static final long[] NANOS = {1, 1000, 1000000, 1000000000L, 60000000000L, 3600000000000L,
-        43200000000000L, 86400000000000L, 604800000000000L};
-    private static final int[] MONTHS = {1, 3, 12, 120, 1200};
 
     public static void main(String[] args) {
         namedSums();
@@ -82,12 +74,12 @@ public final class AmountsTest {
 
     private static void anySums() {
         Random random = new Random(6);
-        TimeDesk desk = new TimeDesk();
         for (int i = 0; i < 300000; i++) {
+            TimeDesk desk = new TimeDesk();
             LocalDateTime before = Times.any(random);
             int unit = random.nextInt(14);
             long n = random.nextLong() >> random.nextInt(64);
-            LocalDateTime want = sum(before, n, unit);
+            LocalDateTime want = PlainTime.sum(before, n, unit);
             Desk.put(desk, 0, before);
             String call = before + " plus " + n + " of " + unit;
             if (want == null) {
@@ -98,32 +90,6 @@ public final class AmountsTest {
             }
             Check.due(call, Desk.take(desk, 0), want);
         }
-    }
-
-    private static LocalDateTime sum(LocalDateTime before, long n, int unit) {
-        if (unit >= 9) {
-            BigInteger months = BigInteger.valueOf(n).multiply(BigInteger.valueOf(MONTHS[unit - 9]));
-            if (months.bitLength() > 30) {
-                return null;
-            }
-            return inCalendar(before.plusMonths(months.longValueExact()));
-        }
-        BigInteger sum = nanos(before).add(BigInteger.valueOf(n).multiply(BigInteger.valueOf(NANOS[unit])));
-        BigInteger[] parts = sum.divideAndRemainder(DAY);
-        if (parts[0].bitLength() > 30) {
-            return null;
-        }
-        return inCalendar(LocalDate.EPOCH.plusDays(parts[0].longValueExact()).atStartOfDay()
-                .plusNanos(parts[1].longValueExact()));
-    }
-
-    private static LocalDateTime inCalendar(LocalDateTime when) {
-        return when.isBefore(Desk.FIRST) || when.isAfter(Desk.LAST) ? null : when;
-    }
-
-    private static BigInteger nanos(LocalDateTime when) {
-        return BigInteger.valueOf(when.toLocalDate().toEpochDay()).multiply(DAY)
-                .add(BigInteger.valueOf(when.toLocalTime().toNanoOfDay()));
     }
 
     private static void namedAmounts() {
@@ -174,35 +140,22 @@ public final class AmountsTest {
 
     private static void anyAmounts() {
         Random random = new Random(7);
-        TimeDesk desk = new TimeDesk();
         for (int i = 0; i < 300000; i++) {
+            TimeDesk desk = new TimeDesk();
             LocalDateTime from = Times.any(random);
             LocalDateTime to = random.nextInt(10) == 0 ? from : Times.any(random);
             int unit = random.nextInt(14);
             Desk.put(desk, 0, from);
             Desk.put(desk, 1, to);
-            BigInteger want = unit < 9
-                    ? nanos(to).subtract(nanos(from)).divide(BigInteger.valueOf(NANOS[unit]))
-                    : BigInteger.valueOf(months(from, to) / MONTHS[unit - 9]);
+            BigInteger want = PlainTime.between(from, to, unit);
             String call = "from " + from + " until " + to + " in " + unit;
             if (want.bitLength() > 63) {
                 Check.dueThrow(call, ARITHMETIC, () -> desk.until(0, 1, unit));
             } else {
                 Check.due(call, desk.until(0, 1, unit), want.longValueExact());
             }
+            Check.due("until itself", desk.until(1, 1, unit), 0);
         }
-        Check.due("until itself", desk.until(0, 0, 0), 0);
-    }
-
-    /** As the document's words say it. */
-    private static int months(LocalDateTime a, LocalDateTime b) {
-        int months = b.getYear() * 12 + b.getMonthValue() - a.getYear() * 12 - a.getMonthValue();
-        LocalDateTime dayOfA = a.withYear(2000).withMonth(1).withDayOfMonth(a.getDayOfMonth());
-        LocalDateTime dayOfB = b.withYear(2000).withMonth(1).withDayOfMonth(b.getDayOfMonth());
-        if (b.isAfter(a) && dayOfB.isBefore(dayOfA)) {
-            return months - 1;
-        }
-        return b.isBefore(a) && dayOfB.isAfter(dayOfA) ? months + 1 : months;
     }
 
     private static void namedSpans() {
@@ -229,17 +182,16 @@ public final class AmountsTest {
 
     private static void anySpans() {
         Random random = new Random(8);
-        TimeDesk desk = new TimeDesk();
         for (int i = 0; i < 100000; i++) {
+            TimeDesk desk = new TimeDesk();
             LocalDateTime from = Times.any(random);
             LocalDateTime to = Times.any(random);
             Desk.put(desk, 0, from);
             Desk.put(desk, 1, to);
-            int months = months(from.toLocalDate().atStartOfDay(), to.toLocalDate().atStartOfDay());
-            long days = to.toLocalDate().toEpochDay() - from.toLocalDate().plusMonths(months).toEpochDay();
-            Check.due("years from " + from + " to " + to, desk.span(0, 1, 0), months / 12);
-            Check.due("months from " + from + " to " + to, desk.span(0, 1, 1), months % 12);
-            Check.due("days from " + from + " to " + to, desk.span(0, 1, 2), days);
+            for (int what = 0; what < 3; what++) {
+                Check.due("span " + what + " from " + from + " to " + to, desk.span(0, 1, what),
+                        PlainTime.span(from, to, what));
+            }
             if (!to.isBefore(from)) {
                 Period period = Period.between(from.toLocalDate(), to.toLocalDate());
                 Check.due("period's days", desk.span(0, 1, 2), period.getDays());
@@ -249,23 +201,22 @@ public final class AmountsTest {
 
     private static void adjustments() {
         Random random = new Random(9);
-        TimeDesk desk = new TimeDesk();
         for (int i = 0; i < 100000; i++) {
-            LocalDateTime before = Times.any(random);
-            adjust(desk, before, random.nextInt(6), 1 + random.nextInt(7));
+            adjust(Times.any(random), random.nextInt(6), 1 + random.nextInt(7));
         }
         for (int day = 1; day <= 7; day++) {
             for (int how = 0; how < 6; how++) {
                 for (int i = 0; i < 8; i++) {
-                    adjust(desk, Desk.FIRST.plusDays(i), how, day);
-                    adjust(desk, Desk.LAST.minusDays(i), how, day);
+                    adjust(Desk.FIRST.plusDays(i), how, day);
+                    adjust(Desk.LAST.minusDays(i), how, day);
                 }
             }
         }
     }
 
-    private static void adjust(TimeDesk desk, LocalDateTime before, int how, int day) {
-        LocalDateTime want = inCalendar(before.with(adjuster(how, DayOfWeek.of(day))));
+    private static void adjust(LocalDateTime before, int how, int day) {
+        TimeDesk desk = new TimeDesk();
+        LocalDateTime want = PlainTime.adjusted(before, how, day);
         Desk.put(desk, 3, before);
         String call = before + " adjusted by " + how + ", " + day;
         if (want == null) {
@@ -275,23 +226,6 @@ public final class AmountsTest {
             desk.adjust(3, how, day);
         }
         Check.due(call, Desk.take(desk, 3), want);
-    }
-
-    private static TemporalAdjuster adjuster(int how, DayOfWeek day) {
-        switch (how) {
-            case 0:
-                return TemporalAdjusters.next(day);
-            case 1:
-                return TemporalAdjusters.nextOrSame(day);
-            case 2:
-                return TemporalAdjusters.previous(day);
-            case 3:
-                return TemporalAdjusters.previousOrSame(day);
-            case 4:
-                return TemporalAdjusters.firstInMonth(day);
-            default:
-                return TemporalAdjusters.lastInMonth(day);
-        }
     }
 
     private static void wrongNumbers() {

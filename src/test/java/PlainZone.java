@@ -10,23 +10,37 @@ final class PlainZone {
     private final int first;
     private final TreeMap<Long, Integer> starts = new TreeMap<>();
     private long lastChange = Long.MIN_VALUE;
+    private int changes = 0;
+    private int rules = 0;
 
     PlainZone(int first) {
         this.first = first;
     }
 
-    void change(long moment, int offset) {
-        starts.put(moment, offset);
-        lastChange = moment;
+    boolean takesChange(long moment) {
+        return changes < 8 && rules == 0 && moment > lastChange;
     }
 
-    void rule(int month, int day, int week, int second, int offset) {
+    boolean takesRule() {
+        return rules < 2;
+    }
+
+    boolean change(long moment, int offset) {
+        starts.put(moment, offset);
+        lastChange = moment;
+        changes++;
+        return true;
+    }
+
+    boolean rule(int month, int day, int week, int second, int offset) {
         for (int year = -9999; year <= 9999; year++) {
             long start = day(year, month, day, DayOfWeek.of(week)).toEpochDay() * 86400 + second;
             if (start > lastChange) {
                 starts.put(start, offset);
             }
         }
+        rules++;
+        return true;
     }
 
     private static LocalDate day(int year, int month, int day, DayOfWeek week) {
@@ -42,6 +56,16 @@ final class PlainZone {
 
     List<Long> starts() {
         return new ArrayList<>(starts.keySet());
+    }
+
+    /** The next moment from this one on that has an offset of its own; this one if there is none. */
+    long startFrom(long moment) {
+        Long start = starts.ceilingKey(moment);
+        return start == null ? moment : start;
+    }
+
+    long lastChange() {
+        return lastChange;
     }
 
     /** Second by second through all that any offset reaches: slow, but nothing to get wrong. */

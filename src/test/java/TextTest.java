@@ -26,13 +26,12 @@ public final class TextTest {
         julian("9999-12-31T23:59:59.999999999", (2932896 + 2440587.5) + 86399999999999L / 8.64E13);
         julian("-9999-01-01T00:00", -1930999.5);
         Random random = new Random(17);
-        TimeDesk desk = new TimeDesk();
         for (int i = 0; i < 20000; i++) {
+            TimeDesk desk = new TimeDesk();
             LocalDateTime when = Times.any(random);
             Desk.put(desk, 0, when);
-            double want = (when.toLocalDate().toEpochDay() + 2440587.5) + when.toLocalTime().toNanoOfDay() / 8.64E13;
             Check.due("julian day of " + when, Double.doubleToLongBits(desk.julian(0)),
-                    Double.doubleToLongBits(want));
+                    Double.doubleToLongBits(PlainTime.julian(when)));
         }
     }
 
@@ -135,17 +134,9 @@ public final class TextTest {
     }
 
     private static void bent(String line) {
-        String shape = "(?!-0000)-?[0-9]{4}-[0-9]{2}-[0-9]{2}(T[0-9]{2}:[0-9]{2}(:[0-9]{2}([.][0-9]{1,9})?)?)?";
         TimeDesk desk = new TimeDesk();
         Desk.type(desk, line);
-        LocalDateTime want = null;
-        if (line.matches(shape)) {
-            try {
-                want = LocalDateTime.parse(line.contains("T") ? line : line + "T00:00");
-            } catch (java.time.DateTimeException e) {
-                want = null;
-            }
-        }
+        LocalDateTime want = PlainTime.read(line);
         if (want == null) {
             Check.dueThrow("parse of '" + line + "'", ARGUMENT, () -> { desk.parse(0); return 0; });
         } else {
@@ -204,8 +195,8 @@ public final class TextTest {
 
     private static void thereAndBack() {
         Random random = new Random(20);
-        TimeDesk desk = new TimeDesk();
         for (int i = 0; i < 20000; i++) {
+            TimeDesk desk = new TimeDesk();
             LocalDateTime when = Times.any(random);
             Desk.put(desk, 0, when);
             String text = Desk.text(desk, 0);

@@ -364,33 +364,28 @@ public final class ZonesTest {
     private static void anyZones() {
         Random random = new Random(14);
         for (int i = 0; i < 60; i++) {
-            TimeDesk desk = new TimeDesk();
-            PlainZone plain = anyZone(random, desk);
-            List<Long> starts = plain.starts();
+            WrittenZone zone = anyZone(random);
+            List<Long> starts = zone.plain().starts();
             starts.add(FIRST);
             starts.add(LAST);
             for (int j = 0; j < 40; j++) {
                 // Mostly near the first moments, where the changes lie close together.
                 int most = random.nextInt(3) > 0 ? Math.min(starts.size(), 12) : starts.size();
                 long near = starts.get(random.nextInt(most));
-                compare(desk, plain, near + random.nextInt(3) - 1);
-                compare(desk, plain, near + random.nextInt(140000) - 70000);
-                compare(desk, plain, random.nextBoolean() ? near + random.nextInt(100) - 50
+                compare(zone, near + random.nextInt(3) - 1);
+                compare(zone, near + random.nextInt(140000) - 70000);
+                compare(zone, random.nextBoolean() ? near + random.nextInt(100) - 50
                         : utc("-9999-01-01T00:00") + random.nextInt(100000));
             }
         }
     }
 
-    private static PlainZone anyZone(Random random, TimeDesk desk) {
-        int first = anyOffset(random);
-        PlainZone plain = new PlainZone(first);
-        desk.zone(0, first);
+    private static WrittenZone anyZone(Random random) {
+        WrittenZone zone = new WrittenZone(anyOffset(random));
         long moment = random.nextBoolean() ? FIRST : Math.floorMod(random.nextLong(), LAST - FIRST - 9999999) + FIRST;
         int step = random.nextBoolean() ? 20 : 100000;
         for (int changes = random.nextInt(9); changes > 0; changes--) {
-            int offset = anyOffset(random);
-            Check.due("change", desk.change(0, moment, offset), true);
-            plain.change(moment, offset);
+            zone.change(moment, anyOffset(random));
             moment += 1 + random.nextInt(step);
         }
         int month = 1 + random.nextInt(12);
@@ -398,25 +393,20 @@ public final class ZonesTest {
         for (int rules = random.nextInt(3); rules > 0; rules--) {
             int week = 1 + random.nextInt(7);
             int second = random.nextBoolean() ? 0 : random.nextInt(86401);
-            int offset = anyOffset(random);
-            Check.due("rule", desk.rule(0, month, day, week, second, offset), true);
-            plain.rule(month, day, week, second, offset);
+            zone.rule(month, day, week, second, anyOffset(random));
             if (random.nextBoolean()) {
                 month = random.nextBoolean() ? 12 : 1 + random.nextInt(12);
                 day = random.nextBoolean() ? 28 : 1 + random.nextInt(28);
             }
         }
-        return plain;
+        return zone;
     }
 
     /** Rules of December and January that often have a moment in common, in all years. */
     private static void anyRulesAroundNewYear() {
         Random random = new Random(5);
         for (int i = 0; i < 60; i++) {
-            TimeDesk desk = new TimeDesk();
-            int first = anyOffset(random);
-            PlainZone plain = new PlainZone(first);
-            desk.zone(0, first);
+            WrittenZone zone = new WrittenZone(anyOffset(random));
             int week = 1 + random.nextInt(7);
             boolean isAtMidnight = random.nextBoolean();
             boolean isDecember = random.nextBoolean();
@@ -426,16 +416,15 @@ public final class ZonesTest {
                 int day = !isDecember ? 1 + random.nextInt(2) : isAtMidnight ? -1 : 27 + random.nextInt(2);
                 int weekday = isDecember && isAtMidnight ? (week + 5) % 7 + 1 : week;
                 int second = isDecember && isAtMidnight ? 86400 : 0;
-                Check.due("rule", desk.rule(0, month, day, weekday, second, offset), true);
-                plain.rule(month, day, weekday, second, offset);
+                zone.rule(month, day, weekday, second, offset);
                 isDecember = !isDecember;
             }
             for (int j = 0; j < 40; j++) {
                 long newYear = utc(String.format("%05d-01-01T00:00", random.nextInt(19999) - 9999)
                         .replaceFirst("^0", ""));
-                compare(desk, plain, newYear + (random.nextInt(12) - 5) * 86400L + random.nextInt(3) - 1);
-                compare(desk, plain, newYear + random.nextInt(1000000) - 500000);
-                compare(desk, plain, newYear + random.nextInt(366) * 86400L);
+                compare(zone, newYear + (random.nextInt(12) - 5) * 86400L + random.nextInt(3) - 1);
+                compare(zone, newYear + random.nextInt(1000000) - 500000);
+                compare(zone, newYear + random.nextInt(366) * 86400L);
             }
         }
     }
@@ -445,7 +434,9 @@ public final class ZonesTest {
         return random.nextBoolean() ? edges[random.nextInt(edges.length)] : random.nextInt(129601) - 64800;
     }
 
-    private static void compare(TimeDesk desk, PlainZone plain, long second) {
+    private static void compare(WrittenZone zone, long second) {
+        TimeDesk desk = zone.desk();
+        PlainZone plain = zone.plain();
         if (second >= FIRST && second <= LAST) {
             Check.due("offset at " + second, desk.offset(0, second), plain.offset(second));
             desk.show(0, 0, second);
