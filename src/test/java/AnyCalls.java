@@ -154,6 +154,9 @@ final class AnyCalls {
     /** A text in the line, now and then a bent one or with other calls between, and then read. */
     private void write(Twin twin, int slot) {
         StringBuilder text = new StringBuilder(Times.any(random).toString());
+        if (random.nextInt(10) == 0) {
+            text.insert(0, '-');
+        }
         if (random.nextInt(4) == 0) {
             text.setLength(random.nextInt(text.length() + 1));
         }
@@ -192,7 +195,7 @@ final class AnyCalls {
     private void rule(Twin twin, int zone) {
         int wrong = seldom() ? random.nextInt(4) : -1;
         int month = random.nextBoolean() ? 1 + random.nextInt(12) : random.nextBoolean() ? 12 : 1;
-        int day = random.nextInt(3) == 0 ? -1 : month == 12 ? 28 : 1 + random.nextInt(28);
+        int day = random.nextInt(3) == 0 ? -1 : month == 12 ? 28 : month == 1 ? 1 : 1 + random.nextInt(28);
         int second = random.nextInt(3) == 0 ? random.nextInt(86401) : random.nextBoolean() ? 0 : 86400;
         twin.call("rule", zone, wrong == 0 ? wildNumber() : month, wrong == 1 ? wildNumber() : day,
                 wrong == 2 ? wildNumber() : 1 + random.nextInt(7), wrong == 3 ? wildNumber() : second, offset());
@@ -260,6 +263,9 @@ final class AnyCalls {
     private long moment(Twin twin, int zone) {
         if (seldom() || zone < 0 || zone > 3) {
             return wildNumber();
+        }
+        if (random.nextInt(10) == 0) {
+            return (random.nextBoolean() ? FIRST_MOMENT : LAST_MOMENT) + random.nextInt(3) - 1;
         }
         PlainZone plain = twin.plain.zoneAt(zone);
         long from = random.nextBoolean() ? FIRST_MOMENT : within(FIRST_MOMENT, LAST_MOMENT);

@@ -39,6 +39,10 @@ public final class FaceTest {
         Class<?> desk = TimeDesk.class;
         Check.due("the class is public and final",
                 desk.getModifiers() & (Modifier.PUBLIC | Modifier.FINAL), Modifier.PUBLIC | Modifier.FINAL);
+        Check.due("what it extends", desk.getSuperclass(), Object.class);
+        Check.due("what it implements", desk.getInterfaces().length, 0);
+        Check.due("the public fields", desk.getFields().length, 0);
+        Check.due("the public classes inside", desk.getClasses().length, 0);
         members(desk);
         classesInside(desk);
         Check.end();

@@ -17,7 +17,7 @@ final class Times {
     static LocalDate anyDate(Random random) {
         int year = random.nextInt(10) == 0 ? (random.nextBoolean() ? -9999 : 9999) : random.nextInt(19999) - 9999;
         if (random.nextInt(3) == 0) {
-            year = 1995 + random.nextInt(10);
+            year = random.nextInt(4) > 0 ? 1995 + random.nextInt(10) : random.nextInt(5) - 2;
         }
         LocalDate month = LocalDate.of(year, 1 + random.nextInt(12), 1);
         switch (random.nextInt(4)) {
