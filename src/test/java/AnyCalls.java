@@ -39,18 +39,19 @@ final class AnyCalls {
         twin.call(method.getName(), arguments);
     }
 
-    /** Four zones with eight changes and two rules each, and eight slots. */
+    /** Four zones with eight changes and two rules each, of which none is refused, and then eight slots. */
     void fill(Twin twin) {
         for (int zone = 0; zone < 4; zone++) {
-            twin.call("zone", zone, offset());
+            twin.call("zone", zone, rightOffset());
             long moment = random.nextBoolean() ? FIRST_MOMENT : within(FIRST_MOMENT, LAST_MOMENT - 10000000);
             int step = random.nextBoolean() ? 20 : 100000;
             for (int i = 0; i < 8; i++) {
-                twin.call("change", zone, moment, offset());
+                twin.call("change", zone, moment, rightOffset());
                 moment += 1 + random.nextInt(step);
             }
-            rule(twin, zone);
-            rule(twin, zone);
+            rule(twin, zone, false);
+            rule(twin, zone, false);
+            Check.due("zone " + zone + " is full", twin.plain.zoneAt(zone).isFull(), true);
         }
         for (int slot = 0; slot < 8; slot++) {
             set(twin, slot);
@@ -182,7 +183,7 @@ final class AnyCalls {
                 twin.call("zone", zone, offset());
                 break;
             case 1:
-                rule(twin, zone);
+                rule(twin, zone, seldom());
                 break;
             default:
                 long last = zone >= 0 && zone < 4 ? twin.plain.zoneAt(zone).lastChange() : 0;
@@ -192,13 +193,14 @@ final class AnyCalls {
     }
 
     /** Often about new year, where one rule's moment may be that of another year's other rule. */
-    private void rule(Twin twin, int zone) {
-        int wrong = seldom() ? random.nextInt(4) : -1;
+    private void rule(Twin twin, int zone, boolean isWrong) {
+        int wrong = isWrong ? random.nextInt(5) : -1;
         int month = random.nextBoolean() ? 1 + random.nextInt(12) : random.nextBoolean() ? 12 : 1;
         int day = random.nextInt(3) == 0 ? -1 : month == 12 ? 28 : month == 1 ? 1 : 1 + random.nextInt(28);
         int second = random.nextInt(3) == 0 ? random.nextInt(86401) : random.nextBoolean() ? 0 : 86400;
         twin.call("rule", zone, wrong == 0 ? wildNumber() : month, wrong == 1 ? wildNumber() : day,
-                wrong == 2 ? wildNumber() : 1 + random.nextInt(7), wrong == 3 ? wildNumber() : second, offset());
+                wrong == 2 ? wildNumber() : 1 + random.nextInt(7), wrong == 3 ? wildNumber() : second,
+                wrong == 4 ? wildNumber() : rightOffset());
     }
 
     private boolean seldom() {
@@ -241,9 +243,10 @@ final class AnyCalls {
     }
 
     private int offset() {
-        if (seldom()) {
-            return (int) wildNumber();
-        }
+        return seldom() ? (int) wildNumber() : rightOffset();
+    }
+
+    private int rightOffset() {
         int[] often = {-64800, 64800, 0, 3600, 7200, 1, -1};
         return random.nextBoolean() ? often[random.nextInt(often.length)] : random.nextInt(129601) - 64800;
     }

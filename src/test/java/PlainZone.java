@@ -25,6 +25,10 @@ final class PlainZone {
         return rules < 2;
     }
 
+    boolean isFull() {
+        return changes == 8 && rules == 2;
+    }
+
     boolean change(long moment, int offset) {
         starts.put(moment, offset);
         lastChange = moment;
